@@ -18,6 +18,7 @@ public final class CardHolder {
     private static final int NO_PEACE = -10000;
 
     private static final int MOST_PERSONS = 8;
+    private static final int PERSON_SETS = 256;
     private static final int DEED_KINDS = 6;
     private static final int DEED_SETS = 64;
     private static final int MOST_ACTS = 40;
@@ -41,6 +42,7 @@ public final class CardHolder {
     private final Bonds fancy;
     private final Square square;
     private final Choice choice;
+    private final Peace peace;
 
     public CardHolder() {
         tape = new Tape();
@@ -56,6 +58,7 @@ public final class CardHolder {
         fancy = new Bonds();
         square = new Square();
         choice = new Choice();
+        peace = new Peace();
     }
 
     // ---- the text
@@ -476,10 +479,10 @@ public final class CardHolder {
         if (!hasCity()) {
             return NO_SUCH;
         }
-        choice.takeLosses(play);
+        peace.take(play);
         int sum = 0;
         for (int set = 0; set <= bonds().everyone(); set++) {
-            if (choice.losersOf(set) == 0) {
+            if (peace.losersOf(set) == 0) {
                 sum++;
             }
         }
@@ -490,10 +493,10 @@ public final class CardHolder {
         if (!hasCity()) {
             return NO_SUCH;
         }
-        choice.takeLosses(play);
+        peace.take(play);
         int best = 0;
         for (int set = 1; set <= bonds().everyone(); set++) {
-            if (Integer.bitCount(set) > Integer.bitCount(best) && choice.losersOf(set) == 0) {
+            if (Integer.bitCount(set) > Integer.bitCount(best) && peace.losersOf(set) == 0) {
                 best = set;
             }
         }
@@ -504,16 +507,16 @@ public final class CardHolder {
         if (!hasCity() || !isPersonSet(set) || !isPerson(person) || bitOf(set, person) == 0) {
             return NO_PEACE;
         }
-        choice.takeLosses(play);
-        return choice.gainOf(set, person);
+        peace.take(play);
+        return peace.gainOf(set, person);
     }
 
     public int leave(int set) {
         if (!hasCity() || !isPersonSet(set)) {
             return NO_SUCH;
         }
-        choice.takeLosses(play);
-        return choice.losersOf(set);
+        peace.take(play);
+        return peace.losersOf(set);
     }
 
     // ---- ransoms and power
@@ -1652,62 +1655,52 @@ public final class CardHolder {
         }
     }
 
-    /** Looks through all sets of persons; what each adds is reckoned once ahead of that. */
+    /** Looks through all sets of persons; each set is reckoned from the one without its last person. */
     private static final class Choice {
-        private final int[] costs = new int[MOST_PERSONS];
-        private final int[] does = new int[MOST_PERSONS];
-        private final int[] gains = new int[MOST_PERSONS];
-        private final int[] losses = new int[MOST_PERSONS];
-        private final int[] holders = new int[MOST_PERSONS];
-        private int persons;
+        private final int[] costs = new int[PERSON_SETS];
+        private final int[] does = new int[PERSON_SETS];
+        private int sets = 1;
 
         void takeHands(Play play) {
-            persons = play.town.bonds.persons;
-            for (int person = 0; person < persons && person < MOST_PERSONS; person++) {
-                costs[person] = 1;
-                does[person] = play.town.deedsOfAll(play.hands.bonds.handOf(person));
+            sets = 1;
+            for (int person = 0; person < play.town.bonds.persons; person++) {
+                join(1, play.town.deedsOfAll(play.hands.bonds.handOf(person)));
             }
         }
 
         void takePersons(Play play) {
-            persons = play.town.bonds.persons;
-            for (int person = 0; person < persons && person < MOST_PERSONS; person++) {
-                costs[person] = play.town.worthOf(person);
-                does[person] = play.town.deedsOf(person);
+            sets = 1;
+            for (int person = 0; person < play.town.bonds.persons; person++) {
+                join(play.town.worthOf(person), play.town.deedsOf(person));
             }
+        }
+
+        private void join(int cost, int deeds) {
+            if (sets + sets > PERSON_SETS) {
+                return;
+            }
+            for (int set = 0; set < sets; set++) {
+                costs[set + sets] = costs[set] + cost;
+                does[set + sets] = does[set] | deeds;
+            }
+            sets += sets;
         }
 
         int costOf(int set) {
-            int sum = 0;
-            for (int person = 0; person < persons && person < MOST_PERSONS; person++) {
-                if (bitOf(set, person) == 1) {
-                    sum += costs[person];
-                }
-            }
-            return sum;
+            return set >= 0 && set < sets ? costs[set] : 0;
         }
 
         int deedsOf(int set) {
-            int all = 0;
-            for (int person = 0; person < persons && person < MOST_PERSONS; person++) {
-                if (bitOf(set, person) == 1) {
-                    all |= does[person];
-                }
-            }
-            return all;
+            return set >= 0 && set < sets ? does[set] : 0;
         }
 
         /** The least set of the least cost that does all deeds; NONE: there is none. */
         int cheapest(int deeds) {
             int best = NONE;
-            int least = 0;
-            for (int set = 0; set < 1 << persons; set++) {
-                if ((deeds & ~deedsOf(set)) == 0) {
-                    int cost = costOf(set);
-                    if (best == NONE || cost < least) {
-                        best = set;
-                        least = cost;
-                    }
+            for (int set = 0; set < sets; set++) {
+                boolean doesAll = (deeds & ~does[set]) == 0;
+                if (doesAll && (best == NONE || costs[set] < costs[best])) {
+                    best = set;
                 }
             }
             return best;
@@ -1717,33 +1710,41 @@ public final class CardHolder {
         int richest(int n) {
             int best = 0;
             int most = 0;
-            for (int set = 0; set < 1 << persons; set++) {
-                int done = Integer.bitCount(deedsOf(set));
-                if (done > most && costOf(set) <= n) {
+            for (int set = 0; set < sets; set++) {
+                int done = Integer.bitCount(does[set]);
+                if (done > most && costs[set] <= n) {
                     best = set;
                     most = done;
                 }
             }
             return best;
         }
+    }
 
-        void takeLosses(Play play) {
-            persons = play.town.bonds.persons;
-            for (int person = 0; person < persons && person < MOST_PERSONS; person++) {
-                int hand = play.hands.bonds.handOf(person) & ~(1 << person);
-                losses[person] = play.town.worthOfAll(hand);
-                gains[person] = play.town.worthOf(person);
-                holders[person] = play.hands.bonds.holderOf(person);
+    /** Who would win or lose what, if hands were laid down; reckoned once for all sets. */
+    private static final class Peace {
+        private final int[] worths = new int[MOST_PERSONS];
+        private final int[] losses = new int[MOST_PERSONS];
+        private final int[] givers = new int[MOST_PERSONS];
+        private int persons;
+
+        void take(Play play) {
+            persons = Math.min(play.town.bonds.persons, MOST_PERSONS);
+            for (int person = 0; person < persons; person++) {
+                int others = ~(1 << person);
+                int holder = play.hands.bonds.holderOf(person);
+                worths[person] = play.town.worthOf(person);
+                losses[person] = play.town.worthOfAll(play.hands.bonds.handOf(person) & others);
+                givers[person] = holder == NONE ? 0 : (1 << holder) & others;
             }
         }
 
         int gainOf(int set, int person) {
-            if (person < 0 || person >= MOST_PERSONS) {
+            if (person < 0 || person >= persons) {
                 return 0;
             }
-            int holder = holders[person];
-            boolean given = holder != NONE && holder != person && bitOf(set, holder) == 1;
-            return (given ? gains[person] : 0) - losses[person];
+            int won = (set & givers[person]) != 0 ? worths[person] : 0;
+            return won - losses[person];
         }
 
         int losersOf(int set) {
