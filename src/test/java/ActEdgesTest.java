@@ -1,4 +1,3 @@
-import java.util.ArrayList;
 import java.util.List;
 
 /** Promises 17 to 25 and Term III at their edges. */
@@ -285,6 +284,11 @@ public final class ActEdgesTest {
         y.ask(1, 1, 0);
         y.day();
         C.due("one that is not held does not", y.free(), 3);
+        CardHolder z = Checks.cityOf(Checks.plain(1, 1, -1, -1, -1, -1, -1, -1, 1));
+        z.steal(2, 0);
+        z.steal(2, 7);
+        z.day();
+        C.due("the first and the last of eight", z.person(1, 3), 129);
     }
 
     private static void day() {
@@ -342,18 +346,30 @@ public final class ActEdgesTest {
         C.promise(23);
         CardHolder x = Checks.cityOf(TOWN);
         C.due("none yet", x.undo(), -5);
-        List<List<Integer>> views = new ArrayList<>();
+        List<Integer> before = Checks.view(x);
         for (int act = 0; act < 8; act++) {
-            views.add(Checks.view(x));
+            undone(act);
             anAct(x, act);
         }
         for (int act = 7; act >= 0; act--) {
             C.due("undo act " + act, x.undo(), act);
-            C.due("as ahead of act " + act, Checks.view(x), views.get(act));
         }
         C.due("none left", x.undo(), -5);
-        C.due("nothing happened", Checks.view(x), views.get(0));
+        C.due("as at first", Checks.view(x), before);
         C.due("of nobody", Checks.cityOf("city wear 1;").undo(), -5);
+    }
+
+    private static void undone(int last) {
+        CardHolder x = Checks.cityOf(TOWN);
+        for (int act = 0; act < last; act++) {
+            anAct(x, act);
+        }
+        List<Integer> before = Checks.view(x);
+        anAct(x, last);
+        C.due("undo the latest, " + last, x.undo(), last);
+        C.due("as ahead of act " + last, Checks.view(x), before);
+        anAct(x, last);
+        C.due("it can be done again", x.count(4), last + 1);
     }
 
     private static void anAct(CardHolder x, int act) {

@@ -83,6 +83,7 @@ public final class ChoiceEdgesTest {
         C.due("nobody", Checks.cityOf(NOBODY).work(), 0);
         C.due("no wishes", worksOf("person worth 1;person worth 1 does 0;card 1 to 0;"), 0);
         C.due("a free one does not ask himself", worksOf("person worth 1 does 0 wishes 0;"), 0);
+        C.due("he does not do what is wished", worksOf("person worth 1 does 1;person worth 1 wishes 0;card 0 to 1;"), 0);
         C.due("who holds himself does", worksOf("person worth 1 does 0 wishes 0;card 0 to 0;"), 1);
         C.due("asked once", worksOf("person worth 1 wishes 0 1;person worth 1 does 0 1;card 1 to 0;"), 1);
         C.due("each wish once", worksOf("person worth 1 wishes 0;person worth 1 does 0;person worth 1 does 0;"
@@ -173,6 +174,7 @@ public final class ChoiceEdgesTest {
         C.due("none needed of nobody", Checks.cityOf(NOBODY).cover(0), 0);
         C.due("no such set of nobody", Checks.cityOf(NOBODY).cover(64), -2);
         C.due("all 63", Checks.cityOf(SIX).cover(63), 6);
+        C.due("the last of eight", Checks.cityOf(LAST).cover(32), 1);
     }
 
     /** Each of six holds himself and does a deed; 6 and 7 do nothing. */
@@ -180,8 +182,14 @@ public final class ChoiceEdgesTest {
         + "person worth 999 does 2;person worth 999 does 1;person worth 999 does 0;person worth 1;person worth 1;"
         + Checks.cards(0, 1, 2, 3, 4, 5, 6, 7);
 
+    /** The last of eight alone does deed 5; each holds himself. */
+    private static final String LAST = "city wear 1;" + "person worth 3 does 0;".repeat(7) + "person worth 9 does 5 0;"
+        + Checks.cards(0, 1, 2, 3, 4, 5, 6, 7);
+
     private static void covers() {
         C.promise(31);
+        C.due("the last of eight", Checks.cityOf(LAST).covers(32), 128);
+        C.due("the last of eight, both deeds", Checks.cityOf(LAST).covers(33), 128);
         CardHolder x = Checks.cityOf(HANDS);
         C.due("none needed", x.covers(0), 0);
         C.due("the least of two sets", x.covers(3), 1);
@@ -216,6 +224,7 @@ public final class ChoiceEdgesTest {
         C.due("of nobody", Checks.cityOf(NOBODY).buy(1), -1);
         C.due("none needed of nobody", Checks.cityOf(NOBODY).buy(0), 0);
         C.due("all 63", Checks.cityOf(SIX).buy(63), 5994);
+        C.due("the last of eight", Checks.cityOf(LAST).buy(32), 9);
         x.rate(4, 10);
         C.due("two for two", x.buy(3), 9);
     }
@@ -232,6 +241,7 @@ public final class ChoiceEdgesTest {
         }
         C.due("of nobody", Checks.cityOf(NOBODY).bought(1), -1);
         C.due("all 63", Checks.cityOf(SIX).bought(63), 63);
+        C.due("the last of eight", Checks.cityOf(LAST).bought(32), 128);
         x.rate(4, 9);
         C.due("alike: the least set", x.bought(3), 6);
         CardHolder y = Checks.cityOf("city wear 1;person worth 2 does 0 1;person worth 1 does 0;person worth 1 does 1;");
@@ -256,6 +266,7 @@ public final class ChoiceEdgesTest {
             C.due("deeds(" + n + ")", x.deeds(n), -2);
         }
         C.due("of nobody", Checks.cityOf(NOBODY).deeds(2000), 0);
+        C.due("the last of eight", Checks.cityOf(LAST).deeds(9), 2);
         C.due("two of 999", Checks.cityOf(SIX).deeds(2000), 2);
         C.due("two of 999", Checks.cityOf(SIX).deeds(1998), 2);
         C.due("one of 999", Checks.cityOf(SIX).deeds(1997), 1);
@@ -274,6 +285,7 @@ public final class ChoiceEdgesTest {
             C.due("hired(" + n + ")", x.hired(n), -2);
         }
         C.due("of nobody", Checks.cityOf(NOBODY).hired(2000), 0);
+        C.due("the last of eight", Checks.cityOf(LAST).hired(9), 128);
         C.due("the least of several", Checks.cityOf(SIX).hired(2000), 3);
         C.due("the least set, though dearer", Checks.cityOf("city wear 1;person worth 5 does 0 1;person worth 1 does 0 1;")
             .hired(5), 1);
@@ -367,6 +379,8 @@ public final class ChoiceEdgesTest {
         watched(z, -1);
         CardHolder w = Checks.cityOf(NOBODY);
         watched(w, -1);
+        CardHolder u = Checks.cityOf("city wear 1;person worth 1 wishes 0 1;person worth 1;");
+        watched(u, 0);
         CardHolder v = Checks.cityOf("city wear 1;person worth 1;");
         watched(v, -1);
     }

@@ -128,6 +128,9 @@ public final class DuelEdgesTest {
         C.due("whichever beats it: the least", z.reply(0, 1), 4);
         CardHolder w = Checks.cityOf(worths(1, 1, 5, 5, 3, 5) + Checks.cards(-1, -1, 0, 1, 1, 1));
         C.due("alike: the least", w.reply(0, 1), 3);
+        CardHolder v = Checks.cityOf(worths(9, 7, 5) + Checks.cards(2, 1, -1));
+        C.due("against card 0", v.reply(2, 1), 1);
+        C.due("by card 0", v.reply(1, 2), 0);
     }
 
     /** 0 and 1 (5, 5) hold one another, 2 (9) himself, 3 is free and holds 4 (7). */
@@ -179,6 +182,8 @@ public final class DuelEdgesTest {
         C.due("all without the lord", Checks.cityOf(LORD).firmest(), 254);
         C.due("the whole ring", Checks.cityOf(Checks.plain(1, 7, 0, 1, 2, 3, 4, 5, 6)).firmest(), 255);
         C.due("nobody", Checks.cityOf(worths(5, 6) + Checks.cards(1, 0)).firmest(), 0);
+        C.due("person 0 alone", Checks.cityOf(worths(5, 6) + Checks.cards(1, -1)).firmest(), 1);
+        C.due("person 1 alone", Checks.cityOf(worths(5, 6) + Checks.cards(-1, 0)).firmest(), 2);
     }
 
     private static void wins() {
@@ -248,6 +253,7 @@ public final class DuelEdgesTest {
             C.due("ransom(0, " + none + ")", x.ransom(0, none), -2);
         }
         C.due("of nobody", Checks.cityOf(NOBODY).ransom(0, 0), -2);
+        C.due("the worth of card 0", Checks.cityOf(worths(6, 7) + Checks.cards(1, -1)).ransom(1, 0), 6);
     }
 
     private static void ransomed() {

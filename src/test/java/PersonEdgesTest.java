@@ -295,6 +295,10 @@ public final class PersonEdgesTest {
             C.due("all around, " + i, y.asked(7, 3, i), i < 7 ? 6 - i : 7);
         }
         C.due("nine are not asked", y.asked(7, 3, 8), -1);
+        CardHolder z = Checks.cityOf("city wear 1;person worth 1 does 4;person worth 1;person worth 1;" + Checks.cards(2, -1, 1));
+        C.due("on the way to person 0", z.asked(1, 4, 0), 2);
+        C.due("person 0", z.asked(1, 4, 1), 0);
+        C.due("nobody behind person 0", z.asked(1, 4, 2), -1);
     }
 
     private static void can() {

@@ -70,6 +70,10 @@ public final class RowEdgesTest {
     }
 
     private static void judgedFromTheStart() {
+        CardHolder alone = Checks.cityOf(COURT);
+        Checks.row(alone, 0, 0, 0, 2, 2);
+        C.promise(55);
+        C.due("freed, though judge() was not called", alone.freed(0), 5);
         CardHolder x = Checks.cityOf(COURT);
         x.ask(0, 1, 0);
         x.steal(3, 2);
@@ -371,6 +375,10 @@ public final class RowEdgesTest {
         C.due("later acts", x.anew(), 4);
         x.rate(1, 60);
         x.forge(3, 0);
+        x.day();
+        x.swap(1, 3);
+        x.steal(2, 1);
+        x.day();
         x.back(2);
         C.due("do not touch it", Checks.view(x), kept);
         x.anew();
@@ -430,11 +438,15 @@ public final class RowEdgesTest {
         CardHolder x = Checks.cityOf(READERS);
         for (int slot = 0; slot < 3; slot++) {
             C.due("row", x.row(slot, slot, 2), 0);
-            x.write(slot, 1, 5);
             C.due("0", read(x, slot, slot, 0), 1);
+            C.due("0", read(x, slot, slot, 1), 1);
+            x.write(slot, 0, 4);
+            x.write(slot, 1, 5);
+            C.due("4", read(x, slot, slot, 0), 16);
             C.due("5", read(x, slot, slot, 1), 32);
             C.due("in place of another one", x.row(slot, slot + 1, 2), 0);
-            C.due("all 0", read(x, slot, slot + 1, 1), 1);
+            C.due("all 0, the first", read(x, slot, slot + 1, 0), 1);
+            C.due("all 0, the last", read(x, slot, slot + 1, 1), 1);
         }
         C.due("the most", x.row(0, 3, 60), 0);
         C.due("its last", x.write(0, 59, 4), 0);
