@@ -74,6 +74,11 @@ public final class RowEdgesTest {
         Checks.row(alone, 0, 0, 0, 2, 2);
         C.promise(55);
         C.due("freed, though judge() was not called", alone.freed(0), 5);
+        CardHolder himself = Checks.cityOf("city wear 1;person worth 1 does 0;card 0 to 0;");
+        himself.row(0, 0, 0);
+        C.due("nobody by an empty row", himself.freed(0), 0);
+        himself.row(0, 0, 3);
+        C.due("one by a row of 0", himself.freed(0), 1);
         CardHolder x = Checks.cityOf(COURT);
         x.ask(0, 1, 0);
         x.steal(3, 2);
